@@ -1,0 +1,147 @@
+import java.util.Random;
+
+/**
+ * Runs of calls drawn from fixed seeds, on the class and on the model: each answer and each
+ * exception must be the same. A run has 512 calls, as many as an object is used for; every
+ * tenth one goes on, where answers are free but nothing undocumented may be thrown.
+ */
+public final class ModelTest {
+    private static final int[] ODD = {Integer.MIN_VALUE, -2, -1, 0, 1, 2, 8, 9, 18, 31, 32, 255, 256, 1000, 1001,
+        Integer.MAX_VALUE};
+    private static final int[] BYTES = {0, 0, 1, 1, 2, 9, 10, 63, 64, 65, 127, 128, 200, 254, 255};
+
+    private final Random random;
+    private final int busy;
+    private final int rows;
+    private final int length;
+
+    private ModelTest(int seed) {
+        random = new Random(seed);
+        busy = random.nextInt(4);
+        rows = 1 + random.nextInt(40);
+        length = 1 + random.nextInt(random.nextBoolean() ? 4 : 32);
+    }
+
+    public static void main(String[] args) {
+        int runs = 6000;
+        for (int seed = 1; seed <= runs; seed++) {
+            int calls = seed % 10 == 0 ? 3000 : 512;
+            if (!new ModelTest(seed).run(seed, calls)) {
+                System.exit(1);
+            }
+        }
+    }
+
+    private boolean run(int seed, int calls) {
+        SortMerge real = new SortMerge();
+        Model model = new Model();
+        for (int n = 1; n <= calls; n++) {
+            int which = pick();
+            int[] a = {0, 0, 0, random.nextInt(2)};
+            fill(which, a);
+            String want = answer(null, model, which, a);
+            String got = answer(real, null, which, a);
+            if (!got.equals(want)) {
+                System.out.println("seed " + seed + ", call " + n + ": method " + which + " (" + a[0] + ", " + a[1]
+                        + ", " + a[2] + ", " + a[3] + ") answered " + got + ", due is " + want);
+                return false;
+            }
+        }
+        return true;
+    }
+
+    /** Runs differ in what they are busy with, so that long inputs and deep outputs come too. */
+    private int pick() {
+        int r = random.nextInt(100);
+        if (r < 40) {
+            int[][] often = {{4, 5, 5, 10}, {10, 10, 10, 12, 13}, {14, 14, 15, 12, 13}, {12, 13, 13, 9, 10}};
+            return often[busy][random.nextInt(often[busy].length)];
+        }
+        return random.nextInt(19);
+    }
+
+    private void fill(int which, int[] a) {
+        if (random.nextInt(40) == 0) {
+            for (int i = 0; i < 3; i++) {
+                a[i] = ODD[random.nextInt(ODD.length)];
+            }
+            return;
+        }
+        int record = 1 + random.nextInt(rows);
+        switch (which) {
+            case 0 -> a[0] = 1 + random.nextInt(random.nextBoolean() ? 4 : 40);
+            case 1 -> a[0] = 2 + random.nextInt(15);
+            case 2 -> set(a, random.nextInt(length), 1 + random.nextInt(random.nextInt(4) == 0 ? 32 : 4), random.nextInt(4));
+            case 4, 5 -> set(a, record, random.nextInt(length), BYTES[random.nextInt(BYTES.length)]);
+            case 6 -> set(a, random.nextInt(length), random.nextInt(3) == 0 ? random.nextInt(5) : 4, BYTES[random.nextInt(BYTES.length)]);
+            case 7 -> set(a, random.nextInt(length), random.nextInt(6) == 0 ? 1 + random.nextInt(8) : 0, 0);
+            case 8 -> set(a, random.nextInt(2), random.nextInt(4), random.nextInt(3) == 0 ? random.nextInt(30) : 0);
+            case 10 -> a[0] = record;
+            case 13 -> a[0] = random.nextInt(length + 1);
+            case 14 -> set(a, random.nextInt(8), record, 0);
+            case 16 -> set(a, record, 1 + random.nextInt(rows), 0);
+            case 18 -> a[0] = random.nextInt(11);
+            default -> { }
+        }
+    }
+
+    private static void set(int[] a, int x, int y, int z) {
+        a[0] = x;
+        a[1] = y;
+        a[2] = z;
+    }
+
+    private static String answer(SortMerge x, Model m, int which, int[] a) {
+        try {
+            return String.valueOf(x != null ? ofReal(x, which, a) : ofModel(m, which, a));
+        } catch (RuntimeException e) {
+            return e.getClass().getName();
+        }
+    }
+
+    private static int ofReal(SortMerge x, int which, int[] a) {
+        return switch (which) {
+            case 0 -> x.area(a[0]);
+            case 1 -> x.ways(a[0]);
+            case 2 -> x.key(a[0], a[1], a[2], a[3] == 1);
+            case 3 -> x.record();
+            case 4, 5 -> x.octet(a[0], a[1], a[2]);
+            case 6 -> x.include(a[0], a[1], a[2]);
+            case 7 -> x.sum(a[0], a[1]);
+            case 8 -> x.exit(a[0], a[1], a[2]);
+            case 9 -> x.begin();
+            case 10 -> x.release(a[0]);
+            case 11 -> x.sort(a[3] == 1);
+            case 12 -> x.next();
+            case 13 -> x.value(a[0]);
+            case 14 -> x.merge(a[0], a[1]);
+            case 15 -> x.mergeAll();
+            case 16 -> x.compare(a[0], a[1]);
+            case 17 -> x.failed();
+            default -> x.count(a[0]);
+        };
+    }
+
+    private static int ofModel(Model x, int which, int[] a) {
+        return switch (which) {
+            case 0 -> x.area(a[0]);
+            case 1 -> x.ways(a[0]);
+            case 2 -> x.key(a[0], a[1], a[2], a[3] == 1);
+            case 3 -> x.record();
+            case 4, 5 -> x.octet(a[0], a[1], a[2]);
+            case 6 -> x.include(a[0], a[1], a[2]);
+            case 7 -> x.sum(a[0], a[1]);
+            case 8 -> x.exit(a[0], a[1], a[2]);
+            case 9 -> x.begin();
+            case 10 -> x.release(a[0]);
+            case 11 -> x.sort(a[3] == 1);
+            case 12 -> x.next();
+            case 13 -> x.value(a[0]);
+            case 14 -> x.merge(a[0], a[1]);
+            case 15 -> x.mergeAll();
+            case 16 -> x.compare(a[0], a[1]);
+            case 17 -> x.failed();
+            default -> x.count(a[0]);
+        };
+    }
+}

@@ -1,0 +1,94 @@
+/** Promise 12, and the runs and passes of promise 19. */
+public final class SortTest {
+    private static final Check check = new Check();
+
+    public static void main(String[] args) {
+        orders();
+        stable();
+        runsAndPasses();
+        condition();
+        check.end();
+    }
+
+    private static void orders() {
+        SortMerge x = new SortMerge();
+        x.key(0, 1, 0, false);
+        x.key(1, 1, 2, true);
+        x.area(2);
+        Check.make(x, 7, 1);
+        Check.make(x, 3, 255);
+        Check.make(x, 3, 1);
+        Check.make(x, 200);
+        Check.make(x);
+        Check.release(x, 1, 2, 3, 4, 5);
+        check.due("sort(false)", x.sort(false), 5);
+        check.due("numbers", Check.numbers(x), "5 3 2 1 4");
+    }
+
+    private static void stable() {
+        SortMerge x = new SortMerge();
+        x.key(0, 1, 0, true);
+        Check.make(x, 1);
+        Check.make(x, 1);
+        Check.make(x, 1);
+        Check.make(x, 2);
+        for (int area = 1; area <= 8; area++) {
+            x.area(area);
+            Check.release(x, 3, 1, 4, 2, 3, 1, 2);
+            check.due("sort(true)", x.sort(true), 7);
+            check.due("stable by area " + area, Check.numbers(x), "4 3 1 2 3 1 2");
+            Check.release(x, 3, 1, 4, 2, 3, 1, 2);
+            check.due("sort(false)", x.sort(false), 7);
+            check.due("by numbers by area " + area, Check.numbers(x), "4 1 1 2 2 3 3");
+        }
+    }
+
+    private static void runsAndPasses() {
+        int[][] dues = {
+            // released, area, ways, runs, passes
+            {0, 1, 2, 0, 0}, {1, 1, 2, 1, 0}, {2, 1, 2, 2, 1}, {2, 2, 2, 1, 0}, {3, 2, 2, 2, 1},
+            {9, 1, 3, 9, 2}, {10, 1, 3, 10, 3}, {16, 1, 16, 16, 1}, {17, 1, 16, 17, 2},
+            {8, 8, 2, 1, 0}, {9, 8, 2, 2, 1}, {40, 7, 3, 6, 2}, {40, 1000, 2, 1, 0}};
+        for (int[] d : dues) {
+            SortMerge x = new SortMerge();
+            x.key(0, 1, 1, false);
+            x.area(d[1]);
+            x.ways(d[2]);
+            StringBuilder want = new StringBuilder();
+            for (int i = 0; i < d[0]; i++) {
+                Check.make(x, 100 - i);
+                want.insert(0, (i + 1) + (i == 0 ? "" : " "));
+            }
+            x.begin();
+            for (int i = 1; i <= d[0]; i++) {
+                x.release(i);
+            }
+            check.due("sort(false)", x.sort(false), d[0]);
+            check.due("runs of " + d[0] + " by " + d[1], x.count(4), d[3]);
+            check.due("passes of " + d[0] + " by " + d[1] + ", " + d[2] + " ways", x.count(5), d[4]);
+            check.due("numbers", Check.numbers(x), want.toString());
+        }
+    }
+
+    /** Promise 7: what the condition lets through. */
+    private static void condition() {
+        SortMerge x = new SortMerge();
+        Check.make(x, 9, 0);
+        Check.make(x, 9, 100);
+        Check.make(x, 9, 200);
+        Check.make(x, 9);
+        String[] dues = {"2", "1 3 4", "1 4", "3", "1 2 3 4"};
+        for (int op = 0; op < dues.length; op++) {
+            check.due("include", x.include(1, op, 100), 1);
+            Check.release(x, 1, 2, 3, 4);
+            x.sort(true);
+            check.due("op " + op, Check.numbers(x), dues[op]);
+            check.due("count(6)", x.count(6), 4 - (dues[op].length() + 1) / 2);
+        }
+        x.include(1, 0, 0);
+        Check.release(x, 1, 2, 3, 4);
+        x.include(0, 5, 0);
+        check.due("behind the end is 0", x.sort(true), 2);
+        check.due("runs of what the condition lets through", x.count(4), 1);
+    }
+}
