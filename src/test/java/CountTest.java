@@ -27,6 +27,9 @@ public final class CountTest {
         check.due("begun", Check.counts(x), "1 4 1 0 5 3 3 3 1 1");
         x.sort(true);
         check.due("a sort of none", Check.counts(x), "1 4 2 0 0 0 0 0 0 1");
+        Check.release(x, 2);
+        x.sort(true);
+        check.due("a sort of one", Check.counts(x), "1 4 2 0 1 0 0 0 0 1");
         check.end();
     }
 }

@@ -56,10 +56,13 @@ public final class ExitsTest {
         x.exit(1, 3, 0);
         sorted("those without bytes", x, "1 4 3", 1);
         x.exit(1, 2, 0);
-        Check.release(x, 1, 4);
+        x.octet(3, 0, 10);
+        Check.release(x, 1, 3, 4);
         x.sort(true);
         x.next();
         check.due("255 becomes 0", Check.bytes(x), "0 1");
+        x.next();
+        check.due("10 becomes 11", Check.bytes(x), "11");
         x.next();
         check.due("9 becomes 10", Check.bytes(x), "10");
     }

@@ -89,6 +89,9 @@ public final class KeysTest {
         check.due("-256 and -2", x.compare(3, 1), -1);
         check.due("-1 and 1", x.compare(2, 4), -1);
         check.due("-32768 and -256", x.compare(5, 3), -1);
+        Check.make(x, 1, 0);
+        Check.make(x, 0, 255);
+        check.due("256 and 255", x.compare(6, 7), 1);
     }
 
     private static SortMerge eightBytes(int usage, boolean down) {
@@ -114,6 +117,7 @@ public final class KeysTest {
         int highFirst = Check.make(x, 64 + 1, 2);
         check.due("-12 and 12", x.compare(minus12, plus12), -1);
         check.due("-13 and -12", x.compare(minus13, minus12), -1);
+        check.due("10 and 9", x.compare(Check.make(x, 1, 0), Check.make(x, 0, 9)), 1);
         check.due("-0 and 0", x.compare(minusZero, zero), 0);
         check.due("14, 15 count as 4, 5", x.compare(fourteenIsFour, plus45), 0);
         check.due("64 in the first one is no sign", x.compare(highFirst, plus12), 0);

@@ -48,7 +48,7 @@ public final class MergeTest {
         x.begin();
         check.due("merge by input", x.merge(0, 3), 2);
         check.due("mergeAll() by input", x.mergeAll(), -5);
-        x.sort(true);
+        x.sort(false);
         check.due("mergeAll()", x.mergeAll(), 7);
         check.due("count(9)", x.count(9), 0);
         check.due("value ahead of next", x.value(0), SortMerge.NONE);
@@ -56,7 +56,9 @@ public final class MergeTest {
         check.due("next()", x.next(), 1);
         check.due("bytes as they came out", Check.bytes(x), "1");
         check.due("equal ones by inputs, then as they came", Check.numbers(x), "3 3 2 3 2 3");
-        check.due("merge() into an empty one", x.merge(2, 1), 1);
+        for (int input = 0; input < 8; input++) {
+            check.due("merge() into an empty one", x.merge(input, 1), 1);
+        }
     }
 
     private static void settingsDontCount() {

@@ -15,17 +15,20 @@ public final class NewObjectTest {
         check.end();
     }
 
-    /** 33 rows in an area of 8 make 5 runs, and these by two ways 3 passes. */
     private static void eightRowsTwoWays(Check check) {
-        SortMerge x = new SortMerge();
-        int record = x.record();
-        x.begin();
-        for (int i = 0; i < 33; i++) {
-            x.release(record);
+        // released, runs, passes
+        int[][] dues = {{8, 1, 0}, {9, 2, 1}, {16, 2, 1}, {17, 3, 2}, {33, 5, 3}};
+        for (int[] d : dues) {
+            SortMerge x = new SortMerge();
+            int record = x.record();
+            x.begin();
+            for (int i = 0; i < d[0]; i++) {
+                x.release(record);
+            }
+            check.due("sort(true)", x.sort(true), d[0]);
+            check.due("runs of " + d[0], x.count(4), d[1]);
+            check.due("passes of " + d[0], x.count(5), d[2]);
         }
-        check.due("sort(true)", x.sort(true), 33);
-        check.due("count(4)", x.count(4), 5);
-        check.due("count(5)", x.count(5), 3);
     }
 
     private static void nothingTold(Check check) {

@@ -7,6 +7,7 @@ public final class SortTest {
         stable();
         runsAndPasses();
         condition();
+        again();
         check.end();
     }
 
@@ -68,6 +69,28 @@ public final class SortTest {
             check.due("passes of " + d[0] + " by " + d[1] + ", " + d[2] + " ways", x.count(5), d[4]);
             check.due("numbers", Check.numbers(x), want.toString());
         }
+    }
+
+    /** A sort that fails can be told again and again; it takes no room from the later ones. */
+    private static void again() {
+        SortMerge x = new SortMerge();
+        x.key(0, 1, 0, false);
+        Check.make(x, 2);
+        Check.make(x, 1);
+        x.begin();
+        for (int i = 0; i < 100; i++) {
+            x.release(1);
+            x.release(2);
+        }
+        x.exit(1, 2, 200);
+        for (int i = 0; i < 100; i++) {
+            check.dueThrow("sort(false)", IllegalStateException.class, () -> x.sort(false));
+        }
+        x.exit(1, 0, 0);
+        check.due("sort(false)", x.sort(false), 200);
+        check.due("count(4)", x.count(4), 25);
+        check.due("next()", x.next(), 2);
+        check.due("value(0)", x.value(0), 1);
     }
 
     /** Promise 7: what the condition lets through. */

@@ -97,5 +97,12 @@ public final class StagesTest {
             check.due("release(1)", x.release(1), n);
         }
         check.due("sort(true)", x.sort(true), 500);
+        // An object is used for 512 calls, so that its answers are free here; but it must not break.
+        x.begin();
+        for (int n = 1; n <= 1000; n++) {
+            check.due("release(1)", x.release(1), n);
+        }
+        check.due("release(1) the 1001st", x.release(1), SortMerge.NONE);
+        check.due("sort(true)", x.sort(true), 1000);
     }
 }
