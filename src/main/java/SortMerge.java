@@ -858,13 +858,13 @@ public final class SortMerge {
             }
         }
 
-        /** Copies are made in the order in which they came, so their row numbers tell it. */
+        /** Row a came later than row b in all that asks here, so that equal ones stay as they came. */
         private boolean before(int a, int b) {
             int order = keys.order(copies, a, b);
             if (order == 0 && !asTheyCame) {
                 order = copies.numberOf(a) - copies.numberOf(b);
             }
-            return order < 0 || order == 0 && a < b;
+            return order < 0;
         }
     }
 }

@@ -1,3 +1,5 @@
+import java.lang.reflect.InvocationTargetException;
+import java.lang.reflect.Method;
 import java.util.Random;
 
 /**
@@ -6,6 +8,8 @@ import java.util.Random;
  * tenth one goes on, where answers are free but nothing undocumented may be thrown.
  */
 public final class ModelTest {
+    private static final String[] METHODS = {"area", "ways", "key", "record", "octet", "octet", "include", "sum", "exit",
+        "begin", "release", "sort", "next", "value", "merge", "mergeAll", "compare", "failed", "count"};
     private static final int[] ODD = {Integer.MIN_VALUE, -2, -1, 0, 1, 2, 8, 9, 18, 31, 32, 255, 256, 1000, 1001,
         Integer.MAX_VALUE};
     private static final int[] BYTES = {0, 0, 1, 1, 2, 9, 10, 63, 64, 65, 127, 128, 200, 254, 255};
@@ -22,7 +26,7 @@ public final class ModelTest {
         length = 1 + random.nextInt(random.nextBoolean() ? 4 : 32);
     }
 
-    public static void main(String[] args) {
+    public static void main(String[] args) throws ReflectiveOperationException {
         int runs = 6000;
         for (int seed = 1; seed <= runs; seed++) {
             int calls = seed % 10 == 0 ? 3000 : 512;
@@ -32,17 +36,17 @@ public final class ModelTest {
         }
     }
 
-    private boolean run(int seed, int calls) {
+    private boolean run(int seed, int calls) throws ReflectiveOperationException {
         SortMerge real = new SortMerge();
         Model model = new Model();
         for (int n = 1; n <= calls; n++) {
             int which = pick();
             int[] a = {0, 0, 0, random.nextInt(2)};
             fill(which, a);
-            String want = answer(null, model, which, a);
-            String got = answer(real, null, which, a);
+            String want = answer(model, which, a);
+            String got = answer(real, which, a);
             if (!got.equals(want)) {
-                System.out.println("seed " + seed + ", call " + n + ": method " + which + " (" + a[0] + ", " + a[1]
+                System.out.println("seed " + seed + ", call " + n + ": " + METHODS[which] + " (" + a[0] + ", " + a[1]
                         + ", " + a[2] + ", " + a[3] + ") answered " + got + ", due is " + want);
                 return false;
             }
@@ -57,7 +61,7 @@ public final class ModelTest {
             int[][] often = {{4, 5, 5, 10}, {10, 10, 10, 12, 13}, {14, 14, 15, 12, 13}, {12, 13, 13, 9, 10}};
             return often[busy][random.nextInt(often[busy].length)];
         }
-        return random.nextInt(19);
+        return random.nextInt(METHODS.length);
     }
 
     private void fill(int which, int[] a) {
@@ -91,57 +95,21 @@ public final class ModelTest {
         a[2] = z;
     }
 
-    private static String answer(SortMerge x, Model m, int which, int[] a) {
-        try {
-            return String.valueOf(x != null ? ofReal(x, which, a) : ofModel(m, which, a));
-        } catch (RuntimeException e) {
-            return e.getClass().getName();
+    private static String answer(Object target, int which, int[] a) throws ReflectiveOperationException {
+        for (Method method : target.getClass().getDeclaredMethods()) {
+            if (method.getName().equals(METHODS[which])) {
+                Class<?>[] types = method.getParameterTypes();
+                Object[] given = new Object[types.length];
+                for (int i = 0; i < types.length; i++) {
+                    given[i] = types[i] == boolean.class ? (Object) (a[3] == 1) : (Object) a[i];
+                }
+                try {
+                    return String.valueOf(method.invoke(target, given));
+                } catch (InvocationTargetException e) {
+                    return e.getCause().getClass().getName();
+                }
+            }
         }
-    }
-
-    private static int ofReal(SortMerge x, int which, int[] a) {
-        return switch (which) {
-            case 0 -> x.area(a[0]);
-            case 1 -> x.ways(a[0]);
-            case 2 -> x.key(a[0], a[1], a[2], a[3] == 1);
-            case 3 -> x.record();
-            case 4, 5 -> x.octet(a[0], a[1], a[2]);
-            case 6 -> x.include(a[0], a[1], a[2]);
-            case 7 -> x.sum(a[0], a[1]);
-            case 8 -> x.exit(a[0], a[1], a[2]);
-            case 9 -> x.begin();
-            case 10 -> x.release(a[0]);
-            case 11 -> x.sort(a[3] == 1);
-            case 12 -> x.next();
-            case 13 -> x.value(a[0]);
-            case 14 -> x.merge(a[0], a[1]);
-            case 15 -> x.mergeAll();
-            case 16 -> x.compare(a[0], a[1]);
-            case 17 -> x.failed();
-            default -> x.count(a[0]);
-        };
-    }
-
-    private static int ofModel(Model x, int which, int[] a) {
-        return switch (which) {
-            case 0 -> x.area(a[0]);
-            case 1 -> x.ways(a[0]);
-            case 2 -> x.key(a[0], a[1], a[2], a[3] == 1);
-            case 3 -> x.record();
-            case 4, 5 -> x.octet(a[0], a[1], a[2]);
-            case 6 -> x.include(a[0], a[1], a[2]);
-            case 7 -> x.sum(a[0], a[1]);
-            case 8 -> x.exit(a[0], a[1], a[2]);
-            case 9 -> x.begin();
-            case 10 -> x.release(a[0]);
-            case 11 -> x.sort(a[3] == 1);
-            case 12 -> x.next();
-            case 13 -> x.value(a[0]);
-            case 14 -> x.merge(a[0], a[1]);
-            case 15 -> x.mergeAll();
-            case 16 -> x.compare(a[0], a[1]);
-            case 17 -> x.failed();
-            default -> x.count(a[0]);
-        };
+        throw new NoSuchMethodException(METHODS[which]);
     }
 }
