@@ -77,6 +77,16 @@ final class Check {
         return text.toString();
     }
 
+    /** All that is left of the output, up to the end: the numbers of the records with their bytes. */
+    static String all(SortMerge x) {
+        StringBuilder text = new StringBuilder();
+        for (int number = x.next(); number > 0; number = x.next()) {
+            String bytes = bytes(x);
+            text.append(number).append(bytes.isEmpty() ? ":" : ": ").append(bytes).append("; ");
+        }
+        return text.toString();
+    }
+
     static String counts(SortMerge x) {
         StringBuilder text = new StringBuilder();
         for (int what = 0; what < 10; what++) {

@@ -4,13 +4,21 @@ public final class KeysTest {
 
     public static void main(String[] args) {
         refusals();
+        allSizes();
         room();
         stages();
         text();
+        behindTheEnd();
         binary();
+        signedSizes();
         digits();
+        digitByDigit();
+        signOfDigits();
         several();
-        none();
+        eightKeys();
+        without();
+        noRecords();
+        compareInAllStages();
         check.end();
     }
 
@@ -141,16 +149,178 @@ public final class KeysTest {
         check.due("the first one counts, down", x.compare(3, 1), 1);
     }
 
-    private static void none() {
+    private static void without() {
         SortMerge x = new SortMerge();
-        check.dueThrow("compare(1, 1)", IllegalArgumentException.class, () -> x.compare(1, 1));
         Check.make(x, 1);
         Check.make(x, 2);
-        check.due("without keys", x.compare(1, 2), 0);
-        check.dueThrow("compare(0, 1)", IllegalArgumentException.class, () -> x.compare(0, 1));
-        check.dueThrow("compare(1, 3)", IllegalArgumentException.class, () -> x.compare(1, 3));
-        check.dueThrow("compare(-1, 1)", IllegalArgumentException.class, () -> x.compare(-1, 1));
-        check.dueThrow("compare(1, min)", IllegalArgumentException.class, () -> x.compare(1, Integer.MIN_VALUE));
-        check.dueThrow("compare(max, 1)", IllegalArgumentException.class, () -> x.compare(Integer.MAX_VALUE, 1));
+        Check.make(x);
+        check.due("without keys all are equal", x.compare(1, 2), 0);
+        check.due("without keys and bytes", x.compare(3, 2), 0);
+        x.key(0, 1, 4, false);
+        x.key(0, 33, 0, false);
+        check.due("what is refused is no key", x.compare(1, 2), 0);
+    }
+
+    private static void noRecords() {
+        SortMerge x = new SortMerge();
+        dueNone(x, 1, 1);
+        dueNone(x, 0, 0);
+        x.record();
+        x.record();
+        for (int none : new int[] {0, 3, -1, 400, 401, Integer.MIN_VALUE, Integer.MAX_VALUE}) {
+            dueNone(x, none, 1);
+            dueNone(x, 2, none);
+            dueNone(x, none, none);
+        }
+        check.due("the last one is one", x.compare(2, 1), 0);
+    }
+
+    private static void dueNone(SortMerge x, int a, int b) {
+        check.dueThrow("compare(" + a + ", " + b + ")", IllegalArgumentException.class, () -> x.compare(a, b));
+    }
+
+    private static void compareInAllStages() {
+        SortMerge x = new SortMerge();
+        x.key(0, 1, 0, false);
+        Check.make(x, 1);
+        Check.make(x, 2);
+        check.due("when idle", x.compare(1, 2), -1);
+        x.begin();
+        check.due("by input", x.compare(2, 1), 1);
+        dueNone(x, 3, 1);
+        x.release(1);
+        x.sort(true);
+        x.next();
+        check.due("by output", x.compare(1, 2), -1);
+        dueNone(x, 1, 0);
+        x.octet(1, 0, 3);
+        check.due("as they are now", x.compare(1, 2), 1);
+    }
+
+    /** By input a key that is not outside is refused by the stage, so that one object answers for all. */
+    private static void allSizes() {
+        int[] most = {32, 8, 8, 18};
+        for (int usage = 0; usage <= 3; usage++) {
+            for (int from = -1; from <= 33; from++) {
+                SortMerge x = new SortMerge();
+                x.begin();
+                for (int size = -1; size <= 34; size++) {
+                    boolean right = from >= 0 && from <= 31 && size >= 1 && size <= most[usage] && from + size <= 32;
+                    check.due("key(" + from + ", " + size + ", " + usage + ")", x.key(from, size, usage, false),
+                            right ? -5 : -4);
+                }
+            }
+        }
+    }
+
+    /** A byte behind the end counts as 0, whatever the usage. */
+    private static void behindTheEnd() {
+        for (int usage = 0; usage <= 3; usage++) {
+            SortMerge x = new SortMerge();
+            x.key(1, 2, usage, false);
+            int[] rows = {Check.make(x), Check.make(x, 9), Check.make(x, 8, 0), Check.make(x, 7, 0, 0),
+                Check.make(x, 6, 0, 0, 99)};
+            int one = Check.make(x, 5, 1);
+            int oneAndNone = Check.make(x, 4, 1, 0);
+            for (int row : rows) {
+                check.due("usage " + usage + ": 0 and 0 of " + row, x.compare(1, row), 0);
+                check.due("usage " + usage + ": 0 and more", x.compare(row, one), -1);
+            }
+            check.due("usage " + usage + ": one that ends within the key", x.compare(one, oneAndNone), 0);
+            SortMerge last = new SortMerge();
+            last.key(31, 1, usage, false);
+            last.octet(last.record(), 30, 5);
+            last.octet(last.record(), 31, 0);
+            last.octet(last.record(), 31, 1);
+            check.due("usage " + usage + ": byte 31 behind the end", last.compare(1, 2), 0);
+            check.due("usage " + usage + ": byte 31", last.compare(1, 3), -1);
+        }
+    }
+
+    /** For each size: the least number, -1, 0, 1 and the greatest one, up and down, with and without sign. */
+    private static void signedSizes() {
+        for (int size = 1; size <= 8; size++) {
+            for (int from : new int[] {0, 32 - size}) {
+                SortMerge signed = new SortMerge();
+                signed.key(from, size, 2, false);
+                SortMerge down = new SortMerge();
+                down.key(from, size, 2, true);
+                SortMerge plain = new SortMerge();
+                plain.key(from, size, 1, false);
+                int[][] ends = {{128, 0, 0}, {255, 255, 255}, {0, 0, 0}, {0, 0, 1}, {127, 255, 255}};
+                int[] ofPlain = {4, 5, 1, 2, 3};
+                for (int[] e : ends) {
+                    put(signed, from, size, e);
+                    put(down, from, size, e);
+                    put(plain, from, size, e);
+                }
+                for (int a = 1; a <= 5; a++) {
+                    for (int b = 1; b <= 5; b++) {
+                        String what = "size " + size + " from " + from + ": " + a + " and " + b;
+                        check.due("with sign, " + what, signed.compare(a, b), Integer.compare(a, b));
+                        check.due("down, " + what, down.compare(a, b), Integer.compare(b, a));
+                        check.due("without sign, " + what, plain.compare(a, b),
+                                Integer.compare(ofPlain[a - 1], ofPlain[b - 1]));
+                    }
+                }
+            }
+        }
+    }
+
+    /** A record with a first byte, bytes between and a last byte; of one byte only the telling one. */
+    private static void put(SortMerge x, int from, int size, int[] e) {
+        int record = x.record();
+        for (int i = 0; i < size; i++) {
+            x.octet(record, from + i, i == 0 ? (size == 1 ? e[0] | e[2] & 1 : e[0]) : i == size - 1 ? e[2] : e[1]);
+        }
+    }
+
+    /** Lowest four bits, modulo 10: of all 256 bytes at the first of two places. */
+    private static void digitByDigit() {
+        for (int low = 0; low < 256; low += 64) {
+            SortMerge x = new SortMerge();
+            x.key(0, 2, 3, false);
+            for (int digit = 0; digit < 10; digit++) {
+                Check.make(x, digit, 5);
+            }
+            for (int b = low; b < low + 64; b++) {
+                int digit = (b & 15) % 10;
+                int record = Check.make(x, b, 5);
+                check.due("digit " + b, x.compare(record, digit + 1), 0);
+                check.due("digit " + b + " and the next one", x.compare(record, (digit + 1) % 10 + 1), digit == 9 ? 1 : -1);
+            }
+        }
+    }
+
+    /** Negative if the last one has 64: of all 256 bytes, in keys of one digit. */
+    private static void signOfDigits() {
+        for (int low = 0; low < 256; low += 64) {
+            SortMerge x = new SortMerge();
+            x.key(3, 1, 3, false);
+            Check.make(x, 0, 0, 0, 0);
+            for (int b = low; b < low + 64; b++) {
+                int digit = (b & 15) % 10;
+                int sign = digit == 0 ? 0 : (b & 64) != 0 ? -1 : 1;
+                check.due("digit " + b + " and 0", x.compare(Check.make(x, 64, 64, 64, b), 1), sign);
+            }
+        }
+    }
+
+    /** The eighth key counts too, and only where the seven ahead of it are equal. */
+    private static void eightKeys() {
+        SortMerge x = new SortMerge();
+        for (int n = 0; n < 8; n++) {
+            x.key(n, 1, n % 4, n % 2 == 1);
+        }
+        check.due("a ninth", x.key(8, 1, 0, false), SortMerge.NONE);
+        Check.make(x, 1, 1, 1, 1, 1, 1, 1, 1, 1);
+        Check.make(x, 1, 1, 1, 1, 1, 1, 1, 2, 1);
+        Check.make(x, 1, 1, 1, 1, 1, 1, 2, 9, 1);
+        Check.make(x, 2, 9, 9, 9, 9, 9, 9, 1, 1);
+        Check.make(x, 1, 1, 1, 1, 1, 1, 1, 1, 2);
+        check.due("the eighth, down", x.compare(1, 2), 1);
+        check.due("the seventh", x.compare(1, 3), -1);
+        check.due("the first", x.compare(4, 3), 1);
+        check.due("a ninth doesn't count", x.compare(1, 5), 0);
     }
 }

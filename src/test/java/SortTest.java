@@ -8,6 +8,11 @@ public final class SortTest {
         runsAndPasses();
         condition();
         again();
+        inOtherStages();
+        ofNone();
+        allDropped();
+        runsOfCopies();
+        manyRows();
         check.end();
     }
 
@@ -113,5 +118,107 @@ public final class SortTest {
         x.include(0, 5, 0);
         check.due("behind the end is 0", x.sort(true), 2);
         check.due("runs of what the condition lets through", x.count(4), 1);
+    }
+
+    private static void inOtherStages() {
+        for (boolean stable : new boolean[] {true, false}) {
+            SortMerge x = new SortMerge();
+            x.exit(0, 0, 1);
+            x.exit(1, 0, 1);
+            check.due("sort when idle", x.sort(stable), -5);
+            x.begin();
+            check.due("sort by input", x.sort(stable), 0);
+            check.due("sort by output", x.sort(stable), -5);
+            check.due("count(2)", x.count(2), 2);
+            x.next();
+            check.due("sort when idle again", x.sort(stable), -5);
+            check.due("count(2)", x.count(2), 0);
+            x.mergeAll();
+            check.due("sort behind mergeAll()", x.sort(stable), -5);
+        }
+    }
+
+    /** No one comes to an exit, so that none fails. */
+    private static void ofNone() {
+        SortMerge x = new SortMerge();
+        x.sum(0, 1);
+        x.include(0, 0, 1);
+        x.exit(0, 1, 1);
+        x.exit(1, 1, 1);
+        x.begin();
+        check.due("sort(true) of none", x.sort(true), 0);
+        check.due("counts", Check.counts(x), "0 0 2 0 0 0 0 0 0 0");
+        check.due("failed()", x.failed(), 0);
+        check.due("next()", x.next(), 0);
+        x.exit(0, 0, 0);
+        x.exit(1, 0, 0);
+        Check.make(x, 1);
+        Check.release(x, 1, 1);
+        check.due("sort(true)", x.sort(true), 1);
+        x.begin();
+        check.due("nothing is left of what was released earlier", x.sort(true), 0);
+    }
+
+    private static void allDropped() {
+        SortMerge x = new SortMerge();
+        x.record();
+        x.include(0, 3, 0);
+        x.exit(0, 0, 1);
+        x.exit(1, 0, 1);
+        Check.release(x, 1, 1, 1);
+        check.due("all dropped by the condition", x.sort(true), 0);
+        check.due("counts", Check.counts(x), "0 1 2 0 0 0 3 0 0 0");
+        check.due("next()", x.next(), 0);
+        x.include(0, 4, 0);
+        x.exit(0, 3, 0);
+        Check.release(x, 1, 1, 1, 1);
+        check.due("all dropped by the input exit", x.sort(true), 0);
+        check.due("counts", Check.counts(x), "0 1 2 0 0 0 4 0 0 0");
+        x.exit(0, 0, 0);
+        x.exit(1, 3, 0);
+        Check.release(x, 1, 1);
+        check.due("all dropped by the output exit", x.sort(true), 0);
+        check.due("counts", Check.counts(x), "0 1 2 0 1 0 0 0 2 0");
+        check.due("next()", x.next(), 0);
+    }
+
+    /** Runs are made of what the condition and the input exit left; sums and the output exit come later. */
+    private static void runsOfCopies() {
+        SortMerge x = new SortMerge();
+        x.key(0, 1, 0, false);
+        Check.make(x, 1, 1);
+        Check.make(x, 2, 1);
+        x.area(2);
+        x.include(0, 0, 1);
+        x.exit(0, 1, 0);
+        Check.release(x, 1, 2, 1, 2, 2, 1, 1, 2, 1, 2, 2, 2);
+        check.due("sort(true)", x.sort(true), 3);
+        check.due("5 let through, 3 left: counts", Check.counts(x), "1 2 2 0 2 1 9 0 0 0");
+        x.include(0, 4, 0);
+        x.exit(0, 0, 0);
+        x.sum(1, 1);
+        x.exit(1, 1, 0);
+        Check.release(x, 1, 1, 2, 2, 1, 2);
+        check.due("sort(true)", x.sort(true), 1);
+        check.due("6 in 3 runs, 2 sums, 1 left: counts", Check.counts(x), "1 2 2 0 3 2 0 4 1 0");
+    }
+
+    /** As many as 512 calls can release, each in a run of its own. */
+    private static void manyRows() {
+        SortMerge x = new SortMerge();
+        x.key(0, 1, 1, true);
+        x.area(1);
+        Check.make(x, 1);
+        Check.make(x, 2);
+        x.begin();
+        for (int i = 0; i < 240; i++) {
+            x.release(1);
+            x.release(2);
+        }
+        check.due("sort(true)", x.sort(true), 480);
+        check.due("runs", x.count(4), 480);
+        check.due("passes", x.count(5), 9);
+        check.due("next()", x.next(), 2);
+        check.due("value(0)", x.value(0), 2);
     }
 }
